@@ -1,3 +1,5 @@
+import java.util.Arrays;
+
 /** A chip for a pocket calculator, with its assembler; ../shared/DOC.md says what each call does. */
 public final class DigitChip {
     public static final int NONE = -1;
@@ -145,23 +147,26 @@ public final class DigitChip {
     /** The text that is typed, and the words that its names make. */
     private static final class Assembler {
         private static final int LONGEST_TEXT = 240;
-        private static final int LABELS = 26;
-        private static final int CALL = 1;
-        private static final int FIELD_WORK = 2;
-        private static final int JUMP = 3;
 
-        // A name's number in its list is its operation; an N stands for a hexadecimal digit.
+        // In these lists N stands for a hexadecimal digit, F for a field's letter, L for a label's letter;
+        // the number of a name in its list is its operation.
+        private static final String LABEL_NAMES = ":L";
+        private static final String GOING_NAMES = "@L >L";
         private static final String PLAIN_NAMES =
             "no p=N ?p=N sN+ sN- ?sN lN p+ p- push pop back key stop C:M down";
         private static final String FIELD_NAMES =
-            "A=0 B=0 C=0 A:B B=A A:C C=B B:C A=A+B A=A+C C=A+C A=A+1 C=C+1 A=A-B A=A-C C=A-C A=A-1 C=C-1 C=-C C=-C-1 A< A> B> C> ?A<B ?A<C ?B ?C ?A=0 ?C=0 C=C+C A=C";
-        private static final String FIELD_LETTERS = "pqexsmnw";
+            "A=0.F B=0.F C=0.F A:B.F B=A.F A:C.F C=B.F B:C.F A=A+B.F A=A+C.F C=A+C.F A=A+1.F C=C+1.F A=A-B.F A=A-C.F C=A-C.F A=A-1.F C=C-1.F C=-C.F C=-C-1.F A<.F A>.F B>.F C>.F ?A<B.F ?A<C.F ?B.F ?C.F ?A=0.F ?C=0.F C=C+C.F A=C.F";
         private static final String HEXADECIMAL = "0123456789abcdef";
+        private static final String FIELDS = "pqexsmnw";
+        private static final String LETTERS = "abcdefghijklmnopqrstuvwxyz";
 
         private final char[] text = new char[LONGEST_TEXT];
         private int length = 0;
-        private final int[] labels = new int[LABELS];
+        private final int[] labels = new int[LETTERS.length()];
+        /** Where in the text the name of each word begins. */
         private final int[] begins = new int[PLACES];
+        /** What the name that was found last has for N, F or L: its number, 0 if there is none of them. */
+        private int choice = 0;
         final int[] words = new int[PLACES];
         int count = 0;
         int ill = NONE;
@@ -179,39 +184,16 @@ public final class DigitChip {
         boolean takeText() {
             count = 0;
             ill = NONE;
-            for (int i = 0; i < LABELS; i++) {
-                labels[i] = NONE;
-            }
-            readNames();
-            // Only now, as a label may come behind the names that go to it.
-            if (ill == NONE) {
-                fillInLabels();
-            }
-            length = 0;
-            return ill == NONE;
-        }
-
-        private void readNames() {
+            Arrays.fill(labels, NONE);
             for (int at = 0; at < length && ill == NONE; at++) {
                 if (beginsName(at) && !takeName(at, endOfName(at))) {
                     ill = at;
                 }
             }
-        }
-
-        private void fillInLabels() {
-            for (int i = 0; i < count && ill == NONE; i++) {
-                int at = begins[i];
-                if (text[at] != '>' && text[at] != '@') {
-                    continue;
-                }
-                int label = labelIn(at, endOfName(at));
-                if (label == NONE || labels[label] == NONE) {
-                    ill = at;
-                } else {
-                    words[i] += labels[label] * 4;
-                }
-            }
+            // Only now, as a label may come behind the names that go to it.
+            fillInLabels();
+            length = 0;
+            return ill == NONE;
         }
 
         private boolean beginsName(int at) {
@@ -227,8 +209,8 @@ public final class DigitChip {
         }
 
         private boolean takeName(int at, int end) {
-            if (text[at] == ':') {
-                return takeLabel(labelIn(at, end));
+            if (findName(LABEL_NAMES, at, end) != NONE) {
+                return takeLabel(choice);
             }
             int made = wordOfName(at, end);
             if (made == NONE || count >= PLACES) {
@@ -241,58 +223,35 @@ public final class DigitChip {
         }
 
         private boolean takeLabel(int label) {
-            if (label == NONE || labels[label] != NONE) {
+            if (labels[label] != NONE) {
                 return false;
             }
             labels[label] = count % PLACES;
             return true;
         }
 
-        /** The number of the label in a name of a sign and a letter, or NONE. */
-        private int labelIn(int at, int end) {
-            if (end - at != 2 || text[at + 1] < 'a' || text[at + 1] > 'z') {
-                return NONE;
-            }
-            return text[at + 1] - 'a';
-        }
-
-        /** The word of a name, that to a label as if it were at place 0; NONE if there is no such name. */
+        /** The word of a name, with the label's number for its place; NONE if there is no such name. */
         private int wordOfName(int at, int end) {
-            if (text[at] == '>') {
-                return labelIn(at, end) == NONE ? NONE : JUMP;
+            int operation = findName(PLAIN_NAMES, at, end);
+            if (operation != NONE) {
+                return choice * 64 + operation * 4;
             }
-            if (text[at] == '@') {
-                return labelIn(at, end) == NONE ? NONE : CALL;
+            operation = findName(FIELD_NAMES, at, end);
+            if (operation != NONE) {
+                return operation * 32 + choice * 4 + 2;
             }
-            if (end - at > 2 && text[end - 2] == '.') {
-                return fieldWord(at, end);
-            }
-            return plainWord(at, end);
+            operation = findName(GOING_NAMES, at, end);
+            return operation == NONE ? NONE : choice * 4 + operation * 2 + 1;
         }
 
-        private int fieldWord(int at, int end) {
-            int field = FIELD_LETTERS.indexOf(text[end - 1]);
-            int start = findName(FIELD_NAMES, at, end - 2);
-            if (field < 0 || start == NONE) {
-                return NONE;
-            }
-            return numberOfName(FIELD_NAMES, start) * 32 + field * 4 + FIELD_WORK;
-        }
-
-        private int plainWord(int at, int end) {
-            int start = findName(PLAIN_NAMES, at, end);
-            if (start == NONE) {
-                return NONE;
-            }
-            return digitInName(PLAIN_NAMES, start, at, end) * 64 + numberOfName(PLAIN_NAMES, start) * 4;
-        }
-
-        /** Where in a list of names the one begins that the text has from at to end, or NONE. */
+        /** The number in a list of the name that the text has from at to end, or NONE. */
         private int findName(String names, int at, int end) {
+            int number = 0;
             for (int start = 0; start < names.length(); start++) {
-                boolean first = start == 0 || names.charAt(start - 1) == ' ';
-                if (first && isName(names, start, at, end)) {
-                    return start;
+                if (names.charAt(start) == ' ') {
+                    number++;
+                } else if ((start == 0 || names.charAt(start - 1) == ' ') && isName(names, start, at, end)) {
+                    return number;
                 }
             }
             return NONE;
@@ -303,35 +262,38 @@ public final class DigitChip {
             if (behind > names.length() || (behind < names.length() && names.charAt(behind) != ' ')) {
                 return false;
             }
+            choice = 0;
             for (int i = at; i < end; i++) {
-                if (!isLike(names.charAt(start + i - at), text[i])) {
+                char listed = names.charAt(start + i - at);
+                if (listed == 'N') {
+                    choice = HEXADECIMAL.indexOf(text[i]);
+                } else if (listed == 'F') {
+                    choice = FIELDS.indexOf(text[i]);
+                } else if (listed == 'L') {
+                    choice = LETTERS.indexOf(text[i]);
+                } else if (listed != text[i]) {
+                    return false;
+                }
+                if (choice < 0) {
                     return false;
                 }
             }
             return true;
         }
 
-        private static boolean isLike(char listed, char typed) {
-            return listed == 'N' ? HEXADECIMAL.indexOf(typed) >= 0 : listed == typed;
-        }
-
-        private static int numberOfName(String names, int start) {
-            int number = 0;
-            for (int i = 0; i < start; i++) {
-                if (names.charAt(i) == ' ') {
-                    number++;
+        private void fillInLabels() {
+            for (int i = 0; i < count && ill == NONE; i++) {
+                // Only the words of the kinds 1 and 3 go to a label.
+                if (words[i] % 2 == 0) {
+                    continue;
+                }
+                int target = labels[words[i] / 4];
+                if (target == NONE) {
+                    ill = begins[i];
+                } else {
+                    words[i] = target * 4 + words[i] % 4;
                 }
             }
-            return number;
-        }
-
-        private int digitInName(String names, int start, int at, int end) {
-            for (int i = at; i < end; i++) {
-                if (names.charAt(start + i - at) == 'N') {
-                    return HEXADECIMAL.indexOf(text[i]);
-                }
-            }
-            return 0;
         }
     }
 
