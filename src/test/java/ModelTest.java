@@ -23,6 +23,7 @@ public final class ModelTest {
     public static void main(String[] args) {
         for (int seed = 0; seed < RUNS; seed++) {
             new ModelTest(seed).doCalls();
+            new ModelTest(seed).doLongText();
         }
         Check.end();
     }
@@ -40,6 +41,30 @@ public final class ModelTest {
             }
         }
         lookAtAll();
+    }
+
+    /** A text of short names, so that there are about as many words as places. */
+    private void doLongText() {
+        StringBuilder text = new StringBuilder();
+        int names = 50 + random.nextInt(25);
+        char next = 'a';
+        for (int i = 0; i < names; i++) {
+            int what = random.nextInt(40);
+            if (what < 3 && next <= 'z') {
+                text.append(':').append(random.nextInt(60) == 0 ? 'a' : next++);
+            } else if (what < 7) {
+                text.append(what % 2 == 0 ? '>' : '@').append((char) ('a' + random.nextInt(3)));
+            } else {
+                text.append(new String[] {"no", "p+", "p-", "l3"}[what % 4]);
+            }
+            text.append(' ');
+        }
+        assembleText(text.toString());
+        lookAtAll();
+        for (int i = 0; i < 5; i++) {
+            run();
+        }
+        look();
     }
 
     private void due(String call, long got, long want) {
