@@ -1,18 +1,5 @@
 /** "THE ASSEMBLER" and the promises 2, 3 and 4: each of their boundaries. */
 public final class AssemblerBoundaryTest {
-    /** A chip whose every register, state and key is not 0, with words at both ends of its memory. */
-    private static DigitChip busy() {
-        DigitChip chip = Check.chip("no @s no :s p=7 s2+ l9 ?s2");
-        Check.setAll(chip, 1, 2, 3, 4, 5, 6, 7);
-        Check.due("run(6)", chip.run(6), 6);
-        chip.key(5);
-        chip.key(6);
-        chip.poke(0, 1000);
-        chip.poke(63, 1023);
-        Check.states(chip, "of the busy chip", 6, 4, 1, 7, 2);
-        return chip;
-    }
-
     public static void main(String[] args) {
         codesFrom32To126();
         refusedCharactersAreNotThere();
@@ -397,7 +384,7 @@ public final class AssemblerBoundaryTest {
     private static void theRestStays() {
         Check.about("Promise 3: (registers, pointer, status, carry, back place and keys stay)");
         for (String text : new String[] {"", "p+", ":a >a"}) {
-            DigitChip chip = busy();
+            DigitChip chip = Words.busy();
             Check.assembles(chip, text, text.isEmpty() ? 0 : 1);
             Check.values(chip, "behind assemble", 1, 2, 90000003, 4, 5, 6, 7);
             Check.states(chip, "behind assemble", 6, 4, 1, 0, 2);
@@ -427,7 +414,7 @@ public final class AssemblerBoundaryTest {
         DigitChip chip = new DigitChip();
         Check.assembles(chip, "", 0);
         Check.assembles(chip, "", 0);
-        chip = busy();
+        chip = Words.busy();
         Check.assembles(chip, "", 0);
         Check.words(chip, "of an empty text");
         Check.due("place behind an empty text", chip.state(3), 0);
@@ -455,7 +442,7 @@ public final class AssemblerBoundaryTest {
         String[] texts = {"p+ p+ x", "p+ :a :a", "p+ p+ >a", "x", ">a p+", "no ".repeat(65)};
         int[] places = {6, 6, 6, 0, 0, 192};
         for (int i = 0; i < texts.length; i++) {
-            DigitChip chip = busy();
+            DigitChip chip = Words.busy();
             long[] before = Check.seen(chip);
             Check.isIll(chip, texts[i], places[i]);
             before[77] = places[i];

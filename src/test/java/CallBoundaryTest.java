@@ -2,17 +2,10 @@
 public final class CallBoundaryTest {
     private static final long FULL = 99999999999999L;
 
-    /** A chip that is in the middle of things, with keys 5 and 6 waiting and a text begun. */
+    /** A chip with nothing 0, with keys 5 and 6 waiting, and with a text begun. */
     private static DigitChip busy() {
-        DigitChip chip = Check.chip("no @s no :s p=7 s2+ l9 ?s2");
-        Check.setAll(chip, 1, 2, 3, 4, 5, 6, 7);
-        Check.due("run(6)", chip.run(6), 6);
-        chip.key(5);
-        chip.key(6);
-        chip.poke(0, 1000);
-        chip.poke(63, 1023);
+        DigitChip chip = Words.busy();
         chip.type('p');
-        Check.states(chip, "of the busy chip", 6, 4, 1, 7, 2);
         return chip;
     }
 

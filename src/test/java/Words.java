@@ -67,4 +67,17 @@ final class Words {
         Check.due("run(1) of word " + word, chip.run(1), 1);
         Check.due("poke(0, 0)", chip.poke(0, 0), true);
     }
+
+    /** A chip whose registers and states are none of them 0, with words at both ends of its memory and two keys. */
+    static DigitChip busy() {
+        DigitChip chip = Check.chip("no @s no :s p=7 s2+ l9 ?s2");
+        Check.setAll(chip, 1, 2, 3, 4, 5, 6, 7);
+        Check.due("run(6)", chip.run(6), 6);
+        chip.key(5);
+        chip.key(6);
+        chip.poke(0, 1000);
+        chip.poke(63, 1023);
+        Check.states(chip, "of the busy chip", 6, 4, 1, 7, 2);
+        return chip;
+    }
 }
